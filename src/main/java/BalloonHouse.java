@@ -921,7 +921,6 @@ public final class BalloonHouse {
             startX = x;
             startY = y;
             trackFrom = hour;
-            trackBehind = hour;
         }
 
         void bringHome() {
@@ -931,7 +930,6 @@ public final class BalloonHouse {
             craft.bags = 0;
             points = 0;
             entered = false;
-            trackFrom = 0;
             trackBehind = 0;
         }
 
@@ -1516,8 +1514,6 @@ public final class BalloonHouse {
                 return;
             }
             int span = hours[size - 1] - hours[0];
-            Arrays.fill(open, 0);
-            Arrays.fill(later, 0);
             for (int leg = size - 2; leg >= 0; leg--) {
                 for (int h = hours[leg + 1] - 1; h >= hours[leg]; h--) {
                     countHour(sky, leg, h);

@@ -4,6 +4,7 @@ public final class FillTest {
         balloons();
         cylinders();
         fillable();
+        cutPurity();
         firstOfOnePrice();
         fill();
         Check.end();
@@ -65,6 +66,16 @@ public final class FillTest {
         Check.row("much too much", all(h, 10000, 100), -1, -1, -1, -1);
         Check.row("too pure", all(h, 401, 100), -1, -1, -1, -1);
         Check.due("nothing is gone", h.count(2), 3);
+    }
+
+    private static void cutPurity() {
+        BalloonHouse h = new BalloonHouse();
+        h.cylinder(1, 49, 3);
+        Check.row("the least amount", all(h, 1, 49), 3, 1, 1, 49);
+        h.cylinder(2, 50, 4);
+        // 149 by 3 is 49.67
+        Check.row("cut, just below", all(h, 3, 50), -1, -1, -1, -1);
+        Check.row("cut", all(h, 3, 49), 7, 3, 3, 49);
     }
 
     private static int[] all(BalloonHouse h, int amount, int purity) {

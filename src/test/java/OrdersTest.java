@@ -152,6 +152,10 @@ public final class OrdersTest {
         bad("drop 99999999999999999999999;", 2, 5);
         bad("drop 10000", 2, 5);
         bad("drop 4294967297;", 2, 5);
+        good("drop1" + "+1".repeat(147) + ";", 1);
+        bad("drop1" + "+1".repeat(147) + "+", 1, 300);
+        bad(";".repeat(300), 1, 0);
+        good("if1=1" + "or 1=1".repeat(48) + ":hold;", 1);
         String twelve = "hold;hold;hold;hold;hold;hold;hold;hold;hold;hold;hold;hold;";
         bad(twelve + "hold;", 3, 60);
         bad(twelve + " if 1=1:hold;", 3, 61);
@@ -205,6 +209,8 @@ public final class OrdersTest {
 
     private static void values() {
         Check.due("number", amount("123"), 123);
+        Check.due("a long sum", amount("1" + "+1".repeat(140)), 141);
+        Check.due("sums in a pair", amount("least(1+2,2+3)+most(1+2,2+3)"), 8);
         Check.due("left to right", amount("100-30-20"), 50);
         Check.due("products first", amount("2+3*4"), 14);
         Check.due("brackets", amount("(2+3)*4"), 20);
@@ -234,6 +240,7 @@ public final class OrdersTest {
         claim("level=3", true);
         claim("hour=7", true);
         claim("sun=1", true);
+        claim("sun+1=2", true);
         claim("cloud=1", true);
         claim("bags=7", true);
         claim("gas=4000", true);
@@ -249,6 +256,8 @@ public final class OrdersTest {
         claim("2>2", false);
         claim("2=3", false);
         claim("not 2=3", true);
+        claim("3=1+2", true);
+        claim("1+2=3", true);
         claim("not not 2=3", false);
         claim("1=1 or 1=1 and 1=2", true);
         claim("[1=1 or 1=1] and 1=2", false);
@@ -263,6 +272,14 @@ public final class OrdersTest {
     }
 
     private static void firstRuleThatHolds() {
+        BalloonHouse night = Check.houseWith(1000, 10, 1000, 20);
+        Check.orders(night, 0, "drop 1+sun*2+cloud*4;");
+        night.cloud(5, 1, true);
+        night.cloud(7, 1, true);
+        night.start(0, 5, 5);
+        night.hours(8);
+        Check.row("sun and cloud", new int[] {night.track(0, 4, 6), night.track(0, 5, 6), night.track(0, 6, 6),
+            night.track(0, 7, 6)}, 1, 5, 3, 7);
         BalloonHouse h = Check.houseWith(1000, 10, 1000, 20);
         Check.due("five", Check.orders(h, 0,
             "if hour<1:hold;if hour<2 and level>0:drop 2+1;if hour=2:valve 5;if hour=3:land;if hour<6:drop bags/2;"), 5);

@@ -7,6 +7,7 @@ public final class PlanTest {
         byTakenLeak();
         bagsAndOrder();
         landsAndLeaves();
+        hourByHour();
         noTrace();
         Check.end();
     }
@@ -114,6 +115,37 @@ public final class PlanTest {
         // Valve 20 leaves 80: below the load of 80 at level 1, so it lands at once.
         Check.row("valve to land", plan(low, 3, 5, 5), 1, 0, 2, 0, 0);
         Check.row("hold as long as it is good", plan(low, 2, 6, 5), 1, 0, 0, 2);
+    }
+
+    /** Forecasts, sun and cloud of each hour to come, up to the sixth, at the top and in the last area. */
+    private static void hourByHour() {
+        BalloonHouse top = Check.houseWith(1000, 10, 1000, 0);
+        top.start(0, 15, 15);
+        top.hours(10);
+        top.forecast(6, 3, 8, 5, -1, 0);
+        top.forecast(6, 3, 15, 1, 3, 2);
+        top.forecast(6, 3, 16, 9, 3, 3);
+        Check.row("three by one, three others", plan(top, 6, 15, 17), 0, 0, 0, 0, 0, 0, 0, 0);
+        Check.due("as far as forecasts go", top.plan(0, 5, 12, 15, -1), 0);
+        // With 100 of gas and a load of 87: at level 1 by night, at 2 by day (89), and down to 1 at 20 of cloud (85).
+        BalloonHouse day = Check.houseWith(1000, 87, 100, 0);
+        day.hours(3);
+        day.forecast(1, 0, 0, 20, 1, 0);
+        day.forecast(2, 0, 0, 20, 0, 1);
+        day.cloud(7, 1, true);
+        day.start(0, 5, 5);
+        Check.row("night, day, cloud, day", plan(day, 6, 9, 7), 0, 0, 0, 0, 0, 0, 0, 0);
+        // Valve 20 of 100 leaves 80, which lift 73 at level 1: no less will do for a load of 74.
+        BalloonHouse valve = Check.houseWith(1000, 74, 100, 0);
+        valve.forecast(1, 0, 0, 20, 3, 0);
+        valve.forecast(2, 0, 0, 20, 3, 0);
+        valve.start(0, 5, 5);
+        Check.due("20 are enough", valve.plan(0, 1, 5, 5, 0), 2);
+        BalloonHouse even = Check.houseWith(1000, 73, 100, 0);
+        even.forecast(1, 0, 0, 20, 3, 0);
+        even.forecast(2, 0, 0, 20, 3, 0);
+        even.start(0, 5, 5);
+        Check.row("20 are not", plan(even, 1, 5, 5), 0, 9, 0);
     }
 
     private static void noTrace() {

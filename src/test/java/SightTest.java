@@ -113,6 +113,19 @@ public final class SightTest {
         h.sight(0, 10, 8);
         h.sight(4, 13, 13);
         Check.row("by the area where it is", ways(h, 4), 1, 1, 1, 1, 1);
+        for (int corner : new int[] {0, 23}) {
+            int in = corner == 0 ? 1 : -1;
+            BalloonHouse along = new BalloonHouse();
+            for (int area = 0; area < 4; area++) {
+                along.wind(1, area, 0, 2, -3 * in, -3 * in);
+                along.wind(1, area, 2, 9, 3 * in, 3 * in);
+                along.wind(2, area, 0, 9, -3 * in, -3 * in);
+            }
+            along.sight(0, corner + 6 * in, corner + 6 * in);
+            along.sight(3, corner + 3 * in, corner + 3 * in);
+            // By the corner: 1 or 2 twice, then 1. Else calm levels round one hour at 2: 233, 234, 323, 332, 432.
+            Check.row("by the corner", ways(along, 4), 9, 1, 1, 1, -1);
+        }
         BalloonHouse edge = new BalloonHouse();
         for (int level = 1; level <= 6; level++) {
             edge.wind(level, 0, 0, 1, -1, 0);
@@ -149,6 +162,13 @@ public final class SightTest {
         }
     }
 
+    private static BalloonHouse fresh() {
+        BalloonHouse h = new BalloonHouse();
+        h.sight(0, 0, 0);
+        h.sight(1, 0, 0);
+        return h;
+    }
+
     /** What was answered is not kept when a wind or a sight changes. */
     private static void windsChange() {
         BalloonHouse h = new BalloonHouse();
@@ -159,6 +179,7 @@ public final class SightTest {
         Check.row("wind", ways(h, 1), 1, 5);
         h.wind(2, 0, 3, 1, 1, 0);
         Check.row("more wind", ways(h, 1), 2, 2);
+        Check.due("asked for a level first", fresh().way(0), 1);
         h.hours(10);
         Check.row("hours don't change it", ways(h, 1), 2, 2);
         h.forecast(3, 0, 3, 1, 1, 0);
