@@ -67,7 +67,6 @@ public final class RaceTest {
         two.start(0, 5, 5);
         two.hours(2);
         Check.due("each zone, each hour", two.of(0, 9), 22);
-        two.wind(3, 0, 2, 1, -3, -3);
         two.wind(3, 0, 2, 1, -3, 0);
         two.hours(1);
         Check.row("flying still", Check.of(two, 0, 0, 9), 1, 35);
