@@ -96,6 +96,10 @@ public final class SightTest {
         calm.sight(0, 5, 5);
         calm.sight(1, 5, 5);
         Check.row("any level", ways(calm, 2), 6, 1, -1);
+        BalloonHouse last = new BalloonHouse();
+        last.sight(998, 23, 23);
+        last.sight(999, 23, 23);
+        Check.row("in the last square, up to the last hour", ways(last, 2), 6, 1, -1);
         calm.sight(2, 5, 5);
         Check.row("2 at the ends, 3 between", ways(calm, 3), 16, 1, 1, -1);
     }
