@@ -51,6 +51,27 @@ final class Check {
         same(what, outcome(call), "throws.IllegalStateException");
     }
 
+    interface Asked {
+        int answer(int n);
+    }
+
+    /** The least and the greatest that are allowed answer as due; one less, one more and what is far off throw. */
+    static void limits(String what, int least, int most, int due, Asked call) {
+        for (int n : new int[] {least, most}) {
+            same(what + " " + n, outcome(() -> call.answer(n)), Integer.toString(due));
+        }
+        for (int n : new int[] {least - 1, most + 1, Integer.MIN_VALUE, Integer.MAX_VALUE}) {
+            illegal(what + " " + n, () -> call.answer(n));
+        }
+    }
+
+    /** Hours go by till an hour is there. */
+    static void hoursTo(BalloonHouse house, int hour) {
+        for (int left = hour - house.count(0); left > 0; left -= 100) {
+            house.hours(Math.min(left, 100));
+        }
+    }
+
     static void feedText(BalloonHouse house, String text) {
         for (int from = 0; from < text.length(); from += 20) {
             int[] n = new int[5];

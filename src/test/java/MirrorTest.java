@@ -41,7 +41,11 @@ public final class MirrorTest {
         }
     }
 
+    /** What an object answers behind its last call is free: no more is asked then. */
     private void ask(String name, Object... args) {
+        if (calls >= CALLS) {
+            return;
+        }
         calls++;
         String got = answer(CLASS_CALLS.get(name + args.length), house, args);
         String want = answer(MIRROR_CALLS.get(name + args.length), mirror, args);
