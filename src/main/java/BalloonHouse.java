@@ -12,6 +12,7 @@ public final class BalloonHouse {
     private static final int AREA_SIDE = 12;
     private static final int AREAS = 4;
     private static final int TOP_LEVEL = 6;
+    private static final int ALL_LEVELS = 126;
     private static final int HOURS = 1000;
     private static final int DAY = 24;
     private static final int SUNRISE = 6;
@@ -50,6 +51,7 @@ public final class BalloonHouse {
     private static final int LONGEST_PLAN = 6;
     private static final int PLANNED_VALVE = 20;
     private static final int HOURS_TO_KNOWN = 3;
+    private static final int FARTHEST_TENFOLD = 325;
 
     private static final int TRACK_COLUMNS = 7;
     private static final int TAPE_BYTES = 300;
@@ -960,7 +962,7 @@ public final class BalloonHouse {
             }
             int square = 100 * wayBetween(craft.x - startX, craft.y - startY);
             int root = 0;
-            for (int i = 1; i * i <= square; i++) {
+            for (int i = 1; i <= FARTHEST_TENFOLD && i * i <= square; i++) {
                 root = i;
             }
             return root - points;
@@ -1460,13 +1462,15 @@ public final class BalloonHouse {
     /** Sights, and the ways that may have led from one to the next. */
     private static final class Sightings {
         private final int[] hours = new int[MOST_SIGHTS];
-        private final int[] xs = new int[MOST_SIGHTS];
-        private final int[] ys = new int[MOST_SIGHTS];
+        private final int[] squares = new int[MOST_SIGHTS];
+        // By hour and square, as bits: the levels that may be flown at there, and, once counted, that lead to the end.
+        private final int[] open = new int[LONGEST_WAY * SQUARES];
         // By square and level: how many ways lead on from an hour, and from the one behind it.
         private int[] these = new int[SQUARES * TOP_LEVEL];
         private int[] later = new int[SQUARES * TOP_LEVEL];
-        // By hour and square: the levels from which a way leads on, as bits.
-        private final int[] open = new int[LONGEST_WAY * SQUARES];
+        // By level and area, of the hour that is looked at.
+        private final int[] pullsX = new int[SLOTS];
+        private final int[] pullsY = new int[SLOTS];
         private final int[] firstWay = new int[LONGEST_WAY];
         private int wayLength = 0;
         private boolean known = false;
@@ -1481,8 +1485,7 @@ public final class BalloonHouse {
                 return -2;
             }
             hours[size] = hour;
-            xs[size] = x;
-            ys[size] = y;
+            squares[size] = y * SIDE + x;
             size++;
             known = false;
             return size;
@@ -1513,33 +1516,48 @@ public final class BalloonHouse {
             if (size < 2) {
                 return;
             }
-            int span = hours[size - 1] - hours[0];
-            for (int leg = size - 2; leg >= 0; leg--) {
-                for (int h = hours[leg + 1] - 1; h >= hours[leg]; h--) {
-                    countHour(sky, leg, h);
-                }
+            int span = Math.min(hours[size - 1] - hours[0], LONGEST_WAY);
+            spread(sky, span);
+            for (int row = span - 1; row >= 0; row--) {
+                countHour(sky, row, row == span - 1);
             }
-            int start = (ys[0] * SIDE + xs[0]) * TOP_LEVEL;
-            for (int i = 0; i < TOP_LEVEL; i++) {
-                wayCount = addWays(wayCount, later[start + i]);
-            }
+            wayCount = sumOf(later, squares[0], open[squares[0]]);
             if (wayCount > 0) {
                 followFirst(sky, span);
             }
         }
 
-        /** Just the squares that can be reached from the sight ahead and reach the one behind are looked at. */
-        private void countHour(Sky sky, int leg, int h) {
-            int gone = FARTHEST_PULL * (h - hours[leg]);
-            int left = FARTHEST_PULL * (hours[leg + 1] - h);
-            int leastX = Math.max(0, Math.max(xs[leg] - gone, xs[leg + 1] - left));
-            int mostX = Math.min(SIDE - 1, Math.min(xs[leg] + gone, xs[leg + 1] + left));
-            int leastY = Math.max(0, Math.max(ys[leg] - gone, ys[leg + 1] - left));
-            int mostY = Math.min(SIDE - 1, Math.min(ys[leg] + gone, ys[leg + 1] + left));
-            Arrays.fill(these, 0);
-            for (int y = leastY; y <= mostY; y++) {
-                for (int x = leastX; x <= mostX; x++) {
-                    countSquare(sky, h, x, y);
+        /** Just what can be reached from the first sight, by the others, is looked at when ways are counted. */
+        private void spread(Sky sky, int span) {
+            Arrays.fill(open, 0);
+            open[squares[0]] = ALL_LEVELS;
+            for (int row = 0; row < span - 1; row++) {
+                noteWinds(sky, hours[0] + row);
+                int seen = squareSeenAt(hours[0] + row + 1);
+                for (int square = 0; square < SQUARES; square++) {
+                    int levels = open[row * SQUARES + square];
+                    if (levels != 0) {
+                        spreadFrom(square, levels, (row + 1) * SQUARES, seen);
+                    }
+                }
+            }
+        }
+
+        private void spreadFrom(int square, int levels, int base, int seen) {
+            for (int level = 1; level <= TOP_LEVEL; level++) {
+                int to = hasLevel(levels, level) ? squareBehind(square, level) : NONE;
+                if (to != NONE && (seen == NONE || to == seen)) {
+                    open[base + to] |= levelsNear(level);
+                }
+            }
+        }
+
+        private void countHour(Sky sky, int row, boolean last) {
+            noteWinds(sky, hours[0] + row);
+            for (int square = 0; square < SQUARES; square++) {
+                int levels = open[row * SQUARES + square];
+                if (levels != 0) {
+                    open[row * SQUARES + square] = countSquare(square, levels, last ? NONE : (row + 1) * SQUARES);
                 }
             }
             int[] spare = later;
@@ -1547,67 +1565,91 @@ public final class BalloonHouse {
             these = spare;
         }
 
-        private void countSquare(Sky sky, int h, int x, int y) {
-            int square = y * SIDE + x;
-            int bits = 0;
+        /** Answers the levels from which ways lead on; base is where the hour behind stands, NONE without. */
+        private int countSquare(int square, int levels, int base) {
+            int on = 0;
             for (int level = 1; level <= TOP_LEVEL; level++) {
-                int to = squareBehind(sky, h, square, level);
-                int ways = to == NONE ? 0 : waysOn(h + 1, to, level);
+                int to = hasLevel(levels, level) ? squareBehind(square, level) : NONE;
+                int ways = 0;
+                if (to != NONE) {
+                    ways = base == NONE ? waysAtTheEnd(to) : sumOf(later, to, open[base + to] & levelsNear(level));
+                }
                 these[square * TOP_LEVEL + level - 1] = ways;
-                bits |= ways > 0 ? 1 << level : 0;
+                on |= ways > 0 ? 1 << level : 0;
             }
-            int row = h - hours[0];
-            if (isWithin(row, 0, LONGEST_WAY - 1)) {
-                open[row * SQUARES + square] = bits;
+            return on;
+        }
+
+        private int waysAtTheEnd(int square) {
+            return square == squares[size - 1] ? 1 : 0;
+        }
+
+        /** Each sum of two is below what an int holds. */
+        private static int sumOf(int[] ways, int square, int levels) {
+            int sum = 0;
+            for (int level = 1; level <= TOP_LEVEL; level++) {
+                if (hasLevel(levels, level)) {
+                    sum = Math.min(sum + ways[square * TOP_LEVEL + level - 1], MOST_WAYS);
+                }
+            }
+            return sum;
+        }
+
+        private void noteWinds(Sky sky, int hour) {
+            for (int slot = 0; slot < SLOTS; slot++) {
+                int wind = sky.trueWind(slot, hour);
+                pullsX[slot] = pullX(wind);
+                pullsY[slot] = pullY(wind);
             }
         }
 
-        private int waysOn(int h, int square, int level) {
-            int last = size - 1;
-            if (h >= hours[last]) {
-                return square == ys[last] * SIDE + xs[last] ? 1 : 0;
+        private int squareSeenAt(int hour) {
+            for (int i = 0; i < size; i++) {
+                if (hours[i] == hour) {
+                    return squares[i];
+                }
             }
-            int ways = 0;
-            for (int next = Math.max(1, level - 1); next <= Math.min(TOP_LEVEL, level + 1); next++) {
-                ways = addWays(ways, later[square * TOP_LEVEL + next - 1]);
-            }
-            return ways;
+            return NONE;
         }
 
-        private static int squareBehind(Sky sky, int h, int square, int level) {
+        /** Where the winds that were noted carry one; NONE beyond the field. */
+        private int squareBehind(int square, int level) {
             int x = square % SIDE;
             int y = square / SIDE;
-            int wind = sky.trueWind(slotOf(level, areaOf(x, y)), h);
-            int toX = x + pullX(wind);
-            int toY = y + pullY(wind);
+            int slot = slotOf(level, areaOf(x, y));
+            int toX = x + pullsX[slot];
+            int toY = y + pullsY[slot];
             return isSquare(toX, toY) ? toY * SIDE + toX : NONE;
         }
 
-        private static int addWays(int some, int more) {
-            return Math.min(some + more, MOST_WAYS);
+        private static boolean hasLevel(int levels, int level) {
+            return (levels >> level & 1) == 1;
+        }
+
+        private static int levelsNear(int level) {
+            return (7 << (level - 1)) & ALL_LEVELS;
         }
 
         private void followFirst(Sky sky, int span) {
-            int square = ys[0] * SIDE + xs[0];
-            int lowest = 1;
-            int highest = TOP_LEVEL;
-            for (int i = 0; i < span && i < LONGEST_WAY && square != NONE; i++) {
-                int level = firstOpen(open[i * SQUARES + square], lowest, highest);
-                firstWay[i] = level;
-                wayLength = i + 1;
-                lowest = level - 1;
-                highest = level + 1;
-                square = squareBehind(sky, hours[0] + i, square, level);
+            int square = squares[0];
+            int near = ALL_LEVELS;
+            for (int row = 0; row < span && square != NONE; row++) {
+                int level = firstOf(open[row * SQUARES + square] & near);
+                firstWay[row] = level;
+                wayLength = row + 1;
+                near = levelsNear(level);
+                noteWinds(sky, hours[0] + row);
+                square = squareBehind(square, level);
             }
         }
 
-        private static int firstOpen(int bits, int lowest, int highest) {
-            for (int level = Math.max(1, lowest); level < Math.min(TOP_LEVEL, highest); level++) {
-                if ((bits >> level & 1) == 1) {
+        private static int firstOf(int levels) {
+            for (int level = 1; level < TOP_LEVEL; level++) {
+                if (hasLevel(levels, level)) {
                     return level;
                 }
             }
-            return Math.min(TOP_LEVEL, highest);
+            return TOP_LEVEL;
         }
     }
 

@@ -10,6 +10,7 @@ public final class EdgeSightTest {
         levelsByOneAtMost();
         theFirstWay();
         firstWaysByOne();
+        waysThatMeet();
         beyondTheField();
         sightsOnTheWay();
         waysToTheLimit();
@@ -181,6 +182,27 @@ public final class EdgeSightTest {
             Check.row("from " + only, new int[] {h.way(0), h.way(1), h.way(2), h.way(3)},
                 only, next, Math.max(1, next - 1), -1);
         }
+    }
+
+    /** 2, 3 and 3, 2 meet in one square, from where 1 leads on as well: but not behind a 3. */
+    private static void waysThatMeet() {
+        BalloonHouse h = new BalloonHouse();
+        for (int level = 1; level <= 6; level++) {
+            h.wind(level, 0, 0, 1, 3, 3);
+            h.wind(level, 0, 1, 1, -3, -3);
+        }
+        h.wind(2, 0, 0, 2, 1, 0);
+        h.wind(3, 0, 0, 2, 0, 1);
+        h.sight(0, 5, 5);
+        h.sight(3, 6, 6);
+        Check.row("2, 3, 2", ways(h, 4), 6, 2, 3, 2, -1);
+        // One level behind another leads away in the last hour: just 1, behind 3 and 2, is left in the end.
+        h.wind(2, 0, 2, 1, 3, 3);
+        Check.row("2, 3, 3", ways(h, 4), 4, 2, 3, 3, -1);
+        h.wind(3, 0, 2, 1, 3, 3);
+        Check.row("2, 3, 4", ways(h, 4), 2, 2, 3, 4, -1);
+        h.wind(4, 0, 2, 1, 3, 3);
+        Check.row("then 3, 2, 1", ways(h, 4), 1, 3, 2, 1, -1);
     }
 
     private static void beyondTheField() {

@@ -34,6 +34,11 @@ public final class FaceTest {
             Check.same(m.getName() + " answers", m.getReturnType().getName(), "int");
         }
         Check.same("methods", seen.toString(), new TreeSet<>(Arrays.asList(FACE)).toString());
+        for (Class<?> inside : BalloonHouse.class.getDeclaredClasses()) {
+            for (Method m : inside.getDeclaredMethods()) {
+                hidden.add(m.getName());
+            }
+        }
         for (Method m : BalloonHouse.class.getDeclaredMethods()) {
             if (!Modifier.isPrivate(m.getModifiers())) {
                 Check.same("hidden " + m.getName(), "" + hidden.contains(m.getName()), "false");
