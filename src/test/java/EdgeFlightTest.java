@@ -11,6 +11,7 @@ public final class EdgeFlightTest {
         warmedToItsVolume();
         liftThatIsLoad();
         ground();
+        noHoursOnTheGround();
         top();
         sidesOfTheField();
         leftWhereItWas();
@@ -253,6 +254,36 @@ public final class EdgeFlightTest {
         }
         empty.hours(2);
         Check.row("then no more", Check.of(empty, 0, 0, 3, 10), 2, 0, 6);
+    }
+
+    /** Hours go by for those that fly alone: on the ground, and beyond the field, nothing leaks, warms or is dropped. */
+    private static void noHoursOnTheGround() {
+        BalloonHouse h = Check.houseWith(1000, 10, 1000, 9);
+        h.set(0, 1, 100);
+        Check.orders(h, 0, "drop 1;");
+        h.zone(0, 575, 6, 0, 1000, 9);
+        h.hours(20);
+        Check.row("at home", Check.of(h, 0, 0, 4, 6, 9, 10), 0, 1000, 9, 0, 0);
+        h.start(0, 5, 5);
+        h.act(0, 3, 0);
+        h.hours(1);
+        // 500, less 50 and 1; level 1 by a load of 55
+        Check.row("in flight", Check.of(h, 0, 0, 3, 4, 6, 9, 10), 1, 1, 449, 9, 9, 1);
+        h.act(0, 2, 440);
+        h.hours(1);
+        Check.row("landed with some gas", Check.of(h, 0, 0, 3, 4, 6, 9, 10), 2, 0, 8, 9, 9, 2);
+        h.hours(50);
+        Check.row("landed", Check.of(h, 0, 0, 3, 4, 6, 9, 10), 2, 0, 8, 9, 9, 2);
+        BalloonHouse left = Check.houseWith(1000, 10, 1000, 9);
+        left.set(0, 1, 100);
+        Check.orders(left, 0, "drop 1;");
+        left.zone(0, 575, 6, 0, 1000, 9);
+        left.wind(1, 0, 0, 1, -3, 0);
+        left.start(0, 0, 0);
+        left.hours(1);
+        Check.row("left", Check.of(left, 0, 0, 3, 4, 6, 9, 10), 3, 1, 899, 8, 9, 1);
+        left.hours(50);
+        Check.row("left for good", Check.of(left, 0, 0, 3, 4, 6, 9, 10), 3, 1, 899, 8, 9, 1);
     }
 
     private static void top() {

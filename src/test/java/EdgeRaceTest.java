@@ -13,6 +13,7 @@ public final class EdgeRaceTest {
         ranksByNumber();
         ranksOfThoseKnown();
         homeAgain();
+        flownAnew();
         countsFromEmptyToFull();
         countsOfOthers();
         Check.end();
@@ -268,6 +269,33 @@ public final class EdgeRaceTest {
             h.home(i);
         }
         Check.row("all at home", ranks(h, 1000), -1, -1, -1, -1, -1, -1, -1, -1);
+    }
+
+    /** Ranks of an hour that is over are by what is so now: the first flight is gone. */
+    private static void flownAnew() {
+        BalloonHouse h = Check.houseWith(1000, 10, 900, 0);
+        h.wind(1, 0, 0, 1, 1, 0);
+        h.wind(1, 0, 10, 1, 3, 0);
+        h.enter(0);
+        for (int hour : new int[] {0, 10}) {
+            Check.hoursTo(h, hour);
+            h.home(0);
+            h.enter(0);
+            Check.fillPure(h, 0, 900);
+            Check.due("start", h.start(0, 5, 5), 1);
+            h.hours(1);
+            h.act(0, 2, 1000);
+            h.hours(1);
+            Check.due("result", h.result(0), hour == 0 ? 10 : 30);
+            Check.row("known from", new int[] {h.ranked(hour + 3, 0), h.ranked(hour + 4, 0)}, -1, 0);
+        }
+        Check.due("no more by 4", h.ranked(4, 0), -1);
+        h.home(0);
+        Check.fillPure(h, 0, 900);
+        h.start(0, 5, 5);
+        h.act(0, 2, 1000);
+        h.hours(1);
+        Check.row("a flight that was not entered", new int[] {h.result(0), h.ranked(1000, 0)}, NOTHING, -1);
     }
 
     private static int[] counts(BalloonHouse h) {

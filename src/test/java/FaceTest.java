@@ -58,6 +58,7 @@ public final class FaceTest {
         Check.due("NONE", BalloonHouse.NONE, -1);
         Check.due("NOTHING", BalloonHouse.NOTHING, -1000000);
         newObject();
+        twoObjects();
         Check.end();
     }
 
@@ -84,5 +85,39 @@ public final class FaceTest {
         // No cloud at first: hour 6 warms by 60 thousandths.
         calm.hours(4);
         Check.due("sun without cloud", calm.of(0, 8), 1060 * 58 / 100);
+    }
+
+    /** What is done with one is not seen in another. */
+    private static void twoObjects() {
+        BalloonHouse one = new BalloonHouse();
+        BalloonHouse other = new BalloonHouse();
+        other.balloon(1000, 10);
+        other.cylinder(900, 100, 0);
+        one.balloon(1000, 10);
+        one.cylinder(900, 100, 0);
+        one.fill(0, 900, 100);
+        one.set(0, 0, 9);
+        one.wind(1, 0, 0, 1000, 1, 1);
+        one.forecast(1, 0, 0, 1000, 1, 1);
+        one.cloud(0, 1000, true);
+        one.zone(0, 575, 6, 0, 1000, 9);
+        one.sight(0, 5, 5);
+        one.log(5, 5);
+        Check.orders(one, 0, "drop !");
+        one.feed(0, 0, 0, 0, 0);
+        one.start(0, 5, 5);
+        one.hours(3);
+        int[] counts = new int[10];
+        for (int what = 0; what < 10; what++) {
+            counts[what] = other.count(what);
+        }
+        Check.row("the other", counts, 0, 1, 1, 0, 0, 0, 0, 0, 0, 0);
+        Check.due("no fault", other.fault(), -1);
+        Check.due("no forecast", other.told(1, 0, 0, 0), 33);
+        other.fill(0, 900, 100);
+        other.start(0, 5, 5);
+        other.hours(6);
+        Check.row("calm, without zones", Check.of(other, 0, 1, 2, 9), 5, 5, 0);
+        Check.due("without cloud", other.of(0, 8), 954 * 58 / 100);
     }
 }
