@@ -11,8 +11,10 @@ public final class BalloonHouse {
     private static final int SQUARES = 576;
     private static final int AREA_SIDE = 12;
     private static final int AREAS = 4;
+    // Squares of a row as bits of x: the western half, and all.
+    private static final int HALF_ROW = 4095;
+    private static final int WHOLE_ROW = 16777215;
     private static final int TOP_LEVEL = 6;
-    private static final int ALL_LEVELS = 126;
     private static final int HOURS = 1000;
     private static final int DAY = 24;
     private static final int SUNRISE = 6;
@@ -639,6 +641,7 @@ public final class BalloonHouse {
 
     /** True winds, what was found of them, forecasts and cloud. */
     private static final class Sky {
+        // Less CALM, so that a new row is calm.
         private final int[] winds = new int[HOURS * SLOTS];
         private final int[] foundSlots = new int[HOURS];
         private final boolean[] clouds = new boolean[HOURS];
@@ -646,20 +649,16 @@ public final class BalloonHouse {
         int forecastCount = 0;
         int foundCount = 0;
 
-        Sky() {
-            Arrays.fill(winds, CALM);
-        }
-
         void blow(int slot, int from, int hours, int wind) {
             for (int i = from; i < from + hours; i++) {
                 if (isHour(i) && isWithin(slot, 0, SLOTS - 1)) {
-                    winds[i * SLOTS + slot] = wind;
+                    winds[i * SLOTS + slot] = wind - CALM;
                 }
             }
         }
 
         int trueWind(int slot, int hour) {
-            return isHour(hour) && isWithin(slot, 0, SLOTS - 1) ? winds[hour * SLOTS + slot] : CALM;
+            return isHour(hour) && isWithin(slot, 0, SLOTS - 1) ? winds[hour * SLOTS + slot] + CALM : CALM;
         }
 
         boolean isFound(int slot, int hour) {
@@ -1463,11 +1462,14 @@ public final class BalloonHouse {
     private static final class Sightings {
         private final int[] hours = new int[MOST_SIGHTS];
         private final int[] squares = new int[MOST_SIGHTS];
-        // By hour and square, as bits: the levels that may be flown at there, and, once counted, that lead to the end.
-        private final int[] open = new int[LONGEST_WAY * SQUARES];
-        // By square and level: how many ways lead on from an hour, and from the one behind it.
-        private int[] these = new int[SQUARES * TOP_LEVEL];
-        private int[] later = new int[SQUARES * TOP_LEVEL];
+        // By hour, level and y, as bits of x: the squares from which that level leads on, by all sights, to the last.
+        private final int[] good = new int[LONGEST_WAY * TOP_LEVEL * SIDE];
+        // By y, as bits of x: the squares to which the level that is looked at must lead.
+        private final int[] goals = new int[SIDE];
+        // By level and square, with a level more at either end: how many ways lead to a good one in an hour, and where
+        // that hour carries them.
+        private final int[] these = new int[(TOP_LEVEL + 2) * SQUARES];
+        private final int[] carried = new int[(TOP_LEVEL + 2) * SQUARES];
         // By level and area, of the hour that is looked at.
         private final int[] pullsX = new int[SLOTS];
         private final int[] pullsY = new int[SLOTS];
@@ -1517,79 +1519,166 @@ public final class BalloonHouse {
                 return;
             }
             int span = Math.min(hours[size - 1] - hours[0], LONGEST_WAY);
-            spread(sky, span);
             for (int row = span - 1; row >= 0; row--) {
-                countHour(sky, row, row == span - 1);
+                markHour(sky, row, row == span - 1);
             }
-            wayCount = sumOf(later, squares[0], open[squares[0]]);
-            if (wayCount > 0) {
-                followFirst(sky, span);
-            }
-        }
-
-        /** Just what can be reached from the first sight, by the others, is looked at when ways are counted. */
-        private void spread(Sky sky, int span) {
-            Arrays.fill(open, 0);
-            open[squares[0]] = ALL_LEVELS;
-            for (int row = 0; row < span - 1; row++) {
-                noteWinds(sky, hours[0] + row);
-                int seen = squareSeenAt(hours[0] + row + 1);
-                for (int square = 0; square < SQUARES; square++) {
-                    int levels = open[row * SQUARES + square];
-                    if (levels != 0) {
-                        spreadFrom(square, levels, (row + 1) * SQUARES, seen);
-                    }
-                }
+            followFirst(sky, span);
+            if (wayLength > 0) {
+                wayCount = countWays(sky, span);
             }
         }
 
-        private void spreadFrom(int square, int levels, int base, int seen) {
-            for (int level = 1; level <= TOP_LEVEL; level++) {
-                int to = hasLevel(levels, level) ? squareBehind(square, level) : NONE;
-                if (to != NONE && (seen == NONE || to == seen)) {
-                    open[base + to] |= levelsNear(level);
-                }
-            }
-        }
+        // ---- which squares and levels are good, from the last hour back ----
 
-        private void countHour(Sky sky, int row, boolean last) {
+        private void markHour(Sky sky, int row, boolean last) {
             noteWinds(sky, hours[0] + row);
-            for (int square = 0; square < SQUARES; square++) {
-                int levels = open[row * SQUARES + square];
-                if (levels != 0) {
-                    open[row * SQUARES + square] = countSquare(square, levels, last ? NONE : (row + 1) * SQUARES);
-                }
-            }
-            int[] spare = later;
-            later = these;
-            these = spare;
-        }
-
-        /** Answers the levels from which ways lead on; base is where the hour behind stands, NONE without. */
-        private int countSquare(int square, int levels, int base) {
-            int on = 0;
+            int seen = squareSeenAt(hours[0] + row);
             for (int level = 1; level <= TOP_LEVEL; level++) {
-                int to = hasLevel(levels, level) ? squareBehind(square, level) : NONE;
-                int ways = 0;
-                if (to != NONE) {
-                    ways = base == NONE ? waysAtTheEnd(to) : sumOf(later, to, open[base + to] & levelsNear(level));
+                noteGoals(row + 1, level, last);
+                int base = placeOf(row, level);
+                for (int y = 0; y < SIDE; y++) {
+                    int bits = leadingOn(level, 0, y) | leadingOn(level, 1, y);
+                    good[base + y] = bits & bitsLeftBy(seen, y);
                 }
-                these[square * TOP_LEVEL + level - 1] = ways;
-                on |= ways > 0 ? 1 << level : 0;
             }
-            return on;
         }
 
-        private int waysAtTheEnd(int square) {
-            return square == squares[size - 1] ? 1 : 0;
+        private void noteGoals(int row, int level, boolean last) {
+            int lowest = Math.max(level - 1, 1);
+            int highest = Math.min(level + 1, TOP_LEVEL);
+            for (int y = 0; y < SIDE; y++) {
+                int bits = 0;
+                for (int near = lowest; near <= highest && !last; near++) {
+                    bits |= good[placeOf(row, near) + y];
+                }
+                goals[y] = last ? bitsLeftBy(squares[size - 1], y) : bits;
+            }
         }
 
-        /** Each sum of two is below what an int holds. */
-        private static int sumOf(int[] ways, int square, int levels) {
+        /** The squares of a row, in its western half (0) or its eastern one (1), from which a level leads to a goal. */
+        private int leadingOn(int level, int half, int y) {
+            int slot = slotOf(level, areaOf(half * AREA_SIDE, y));
+            int to = y + pullsY[slot];
+            if (to < 0 || to >= SIDE) {
+                return 0;
+            }
+            int pull = pullsX[slot];
+            int bits = pull >= 0 ? goals[to] >> pull : goals[to] << -pull;
+            return bits & (HALF_ROW << (half * AREA_SIDE));
+        }
+
+        /** Of row y: all squares without a sight (NONE), else that of the sight alone. */
+        private static int bitsLeftBy(int seen, int y) {
+            if (seen == NONE) {
+                return WHOLE_ROW;
+            }
+            return seen / SIDE == y ? 1 << seen % SIDE : 0;
+        }
+
+        private int squareSeenAt(int hour) {
+            for (int i = 0; i < size; i++) {
+                if (hours[i] == hour) {
+                    return squares[i];
+                }
+            }
+            return NONE;
+        }
+
+        private static int placeOf(int row, int level) {
+            return (row * TOP_LEVEL + level - 1) * SIDE;
+        }
+
+        private boolean isGood(int row, int level, int square) {
+            return (good[placeOf(row, level) + square / SIDE] >> square % SIDE & 1) == 1;
+        }
+
+        // ---- the first way, and how many there are, from the first hour on ----
+
+        private void followFirst(Sky sky, int span) {
+            int square = squares[0];
+            int lowest = 1;
+            for (int row = 0; row < span && square != NONE; row++) {
+                int level = firstGood(row, square, lowest);
+                if (level == NONE) {
+                    return;
+                }
+                firstWay[row] = level;
+                wayLength = row + 1;
+                lowest = Math.max(level - 1, 1);
+                noteWinds(sky, hours[0] + row);
+                square = squareBehind(square, level);
+            }
+        }
+
+        /** Behind a good level one of those round it is good: none that is too high is met first. */
+        private int firstGood(int row, int square, int lowest) {
+            for (int level = lowest; level <= TOP_LEVEL; level++) {
+                if (isGood(row, level, square)) {
+                    return level;
+                }
+            }
+            return NONE;
+        }
+
+        /** Each way to a good square leads on: once there are as many as are told, there are no fewer in the end. */
+        private int countWays(Sky sky, int span) {
+            Arrays.fill(these, 0);
+            int all = 0;
+            for (int level = 1; level <= TOP_LEVEL; level++) {
+                if (isGood(0, level, squares[0])) {
+                    these[level * SQUARES + squares[0]] = 1;
+                    all++;
+                }
+            }
+            for (int row = 0; row < span - 1 && all < MOST_WAYS; row++) {
+                noteWinds(sky, hours[0] + row);
+                Arrays.fill(carried, 0);
+                all = 0;
+                for (int level = 1; level <= TOP_LEVEL; level++) {
+                    carryLevel(row, level);
+                }
+                for (int level = 1; level <= TOP_LEVEL; level++) {
+                    all = Math.min(all + gatherLevel(row + 1, level), MOST_WAYS);
+                }
+            }
+            return all;
+        }
+
+        private void carryLevel(int row, int level) {
+            for (int y = 0; y < SIDE; y++) {
+                int bits = good[placeOf(row, level) + y];
+                for (int half = 0; half < 2 && bits != 0; half++) {
+                    carryHalf(level, half, y);
+                }
+            }
+        }
+
+        private void carryHalf(int level, int half, int y) {
+            int slot = slotOf(level, areaOf(half * AREA_SIDE, y));
+            int toY = y + pullsY[slot];
+            int from = level * SQUARES + y * SIDE;
+            int to = level * SQUARES + toY * SIDE;
+            for (int x = half * AREA_SIDE; x < (half + 1) * AREA_SIDE; x++) {
+                int ways = these[from + x];
+                if (ways > 0 && isSquare(x + pullsX[slot], toY)) {
+                    carried[to + x + pullsX[slot]] += ways;
+                }
+            }
+        }
+
+        /** What was carried at the levels round this one; its sum, which stays below what an int holds. */
+        private int gatherLevel(int row, int level) {
             int sum = 0;
-            for (int level = 1; level <= TOP_LEVEL; level++) {
-                if (hasLevel(levels, level)) {
-                    sum = Math.min(sum + ways[square * TOP_LEVEL + level - 1], MOST_WAYS);
+            for (int y = 0; y < SIDE; y++) {
+                int bits = good[placeOf(row, level) + y];
+                int at = level * SQUARES + y * SIDE;
+                for (int x = 0; x < SIDE; x++) {
+                    int ways = 0;
+                    if ((bits >> x & 1) == 1) {
+                        ways = carried[at + x - SQUARES] + carried[at + x] + carried[at + x + SQUARES];
+                    }
+                    these[at + x] = ways;
+                    sum += ways;
                 }
             }
             return sum;
@@ -1603,15 +1692,6 @@ public final class BalloonHouse {
             }
         }
 
-        private int squareSeenAt(int hour) {
-            for (int i = 0; i < size; i++) {
-                if (hours[i] == hour) {
-                    return squares[i];
-                }
-            }
-            return NONE;
-        }
-
         /** Where the winds that were noted carry one; NONE beyond the field. */
         private int squareBehind(int square, int level) {
             int x = square % SIDE;
@@ -1620,36 +1700,6 @@ public final class BalloonHouse {
             int toX = x + pullsX[slot];
             int toY = y + pullsY[slot];
             return isSquare(toX, toY) ? toY * SIDE + toX : NONE;
-        }
-
-        private static boolean hasLevel(int levels, int level) {
-            return (levels >> level & 1) == 1;
-        }
-
-        private static int levelsNear(int level) {
-            return (7 << (level - 1)) & ALL_LEVELS;
-        }
-
-        private void followFirst(Sky sky, int span) {
-            int square = squares[0];
-            int near = ALL_LEVELS;
-            for (int row = 0; row < span && square != NONE; row++) {
-                int level = firstOf(open[row * SQUARES + square] & near);
-                firstWay[row] = level;
-                wayLength = row + 1;
-                near = levelsNear(level);
-                noteWinds(sky, hours[0] + row);
-                square = squareBehind(square, level);
-            }
-        }
-
-        private static int firstOf(int levels) {
-            for (int level = 1; level < TOP_LEVEL; level++) {
-                if (hasLevel(levels, level)) {
-                    return level;
-                }
-            }
-            return TOP_LEVEL;
         }
     }
 

@@ -11,6 +11,8 @@ public final class EdgeSightTest {
         theFirstWay();
         firstWaysByOne();
         waysThatMeet();
+        waysThatMeetAtOneLevel();
+        waysAfterOthers();
         beyondTheField();
         sightsOnTheWay();
         waysToTheLimit();
@@ -203,6 +205,38 @@ public final class EdgeSightTest {
         Check.row("2, 3, 4", ways(h, 4), 2, 2, 3, 4, -1);
         h.wind(4, 0, 2, 1, 3, 3);
         Check.row("then 3, 2, 1", ways(h, 4), 1, 3, 2, 1, -1);
+    }
+
+    /** Level 1 leads from 11 to 12 in one area and stays at 12 in the other: both ways count there. */
+    private static void waysThatMeetAtOneLevel() {
+        BalloonHouse h = new BalloonHouse();
+        h.wind(1, 0, 0, 2, 1, 0);
+        h.sight(0, 11, 5);
+        h.sight(3, 12, 5);
+        // 1 first: 11., 12. and 2, 3 for the last; 2 first: 21 and 1, 2.
+        Check.row("five and two", ways(h, 4), 7, 1, 1, 1, -1);
+        BalloonHouse along = new BalloonHouse();
+        along.wind(1, 0, 0, 2, 0, 1);
+        along.sight(0, 5, 11);
+        along.sight(3, 5, 12);
+        Check.row("likewise along y", ways(along, 4), 7, 1, 1, 1, -1);
+    }
+
+    /** Nothing of ways that were counted ahead is left when others are. */
+    private static void waysAfterOthers() {
+        BalloonHouse h = new BalloonHouse();
+        h.wind(3, 0, 0, 1, 1, 0);
+        h.sight(1, 11, 5);
+        h.sight(3, 11, 5);
+        Check.due("at 11", h.ways(), 16);
+        h.clear();
+        h.sight(0, 12, 5);
+        h.sight(2, 12, 5);
+        Check.due("at 12", h.ways(), 16);
+        h.clear();
+        h.sight(0, 11, 5);
+        h.sight(2, 12, 5);
+        Check.row("from 11 to 12", ways(h, 3), 3, 3, 2, -1);
     }
 
     private static void beyondTheField() {
