@@ -1,4 +1,3 @@
-import java.lang.management.ManagementFactory;
 import java.lang.reflect.Array;
 import java.lang.reflect.Field;
 import java.lang.reflect.Modifier;
@@ -27,9 +26,15 @@ public final class RoomTest {
         Check.end();
     }
 
+    /** Not each Java machine counts them: 0 where it does not. */
     private static long bytesMade() {
-        com.sun.management.ThreadMXBean bean = (com.sun.management.ThreadMXBean) ManagementFactory.getThreadMXBean();
-        return bean.getThreadAllocatedBytes(Thread.currentThread().getId());
+        try {
+            Object bean = Class.forName("java.lang.management.ManagementFactory").getMethod("getThreadMXBean").invoke(null);
+            return (long) Class.forName("com.sun.management.ThreadMXBean").getMethod("getThreadAllocatedBytes", long.class)
+                .invoke(bean, Thread.currentThread().getId());
+        } catch (ReflectiveOperationException e) {
+            return 0;
+        }
     }
 
     /** Within 512 calls: all that may be kept, then the calls that do most. */
